@@ -256,7 +256,7 @@ public final class Formwheel {
 
     public int clear() {
         int before = roll.size;
-        roll.size = 0;
+        roll.removeAll();
         return done(before);
     }
 
@@ -635,10 +635,13 @@ public final class Formwheel {
         }
 
         static long quotient(long form, long by) {
+            if (by == EMPTY) {
+                return EMPTY;
+            }
             int byDegree = degreeOf(by);
             long left = form;
             long quotient = EMPTY;
-            for (int up = degreeOf(form) - byDegree; by != EMPTY && up >= 0; up--) {
+            for (int up = degreeOf(form) - byDegree; up >= 0; up--) {
                 if (hasOne(left, up + byDegree)) {
                     left ^= by << up;
                     quotient |= UNIT << up;
@@ -649,9 +652,12 @@ public final class Formwheel {
 
         /** The rest; by the empty form, which is no divisor, all of the form is left. */
         static long rest(long form, long by) {
+            if (by == EMPTY) {
+                return form;
+            }
             int byDegree = degreeOf(by);
             long left = form;
-            for (int up = degreeOf(form) - byDegree; by != EMPTY && up >= 0; up--) {
+            for (int up = degreeOf(form) - byDegree; up >= 0; up--) {
                 if (hasOne(left, up + byDegree)) {
                     left ^= by << up;
                 }
@@ -798,6 +804,10 @@ public final class Formwheel {
             size--;
         }
 
+        void removeAll() {
+            size = 0;
+        }
+
         /** Puts them in a row; tells at how many numbers another one stands then. */
         int arrange(boolean isFalling) {
             System.arraycopy(held, 0, before, 0, ROLL_LIMIT);
@@ -884,7 +894,7 @@ public final class Formwheel {
 
         /** The least one first. */
         void findByTrying(long form, Roll into) {
-            into.size = 0;
+            into.removeAll();
             long left = form;
             long tried = X;
             for (int turn = 0; turn < TRYING_TURNS && Digits.degreeOf(left) > 0; turn++) {
@@ -903,7 +913,7 @@ public final class Formwheel {
 
         /** Those of a lesser degree first. */
         void findByDegrees(long form, Roll into) {
-            into.size = 0;
+            into.removeAll();
             long left = form;
             for (int d = 1; d <= TOP_FACTOR_DEGREE && Digits.degreeOf(left) > 0; d++) {
                 long unlike = Digits.greatestBoth(left, Digits.risenRest(d, left) ^ X);
@@ -919,7 +929,7 @@ public final class Formwheel {
          * its rests, and some rest has unlike traces by any two of the primes: so one of those units has, too.
          */
         private void partByTraces(long unlike, int d) {
-            parts.size = 0;
+            parts.removeAll();
             int degree = Digits.degreeOf(unlike);
             if (degree < d) {
                 return;

@@ -144,6 +144,11 @@ final class AskedTests {
             Expect.asked("of degree 11", () -> Made.of(2053), f -> f.isPrime(0, by), -9);
             Expect.asked("of degree 39", Made::busy, f -> f.isPrime(3, by), -9);
         }
+        for (int code = 0; code < 512; code++) {
+            int want = PlainForm.isPrime(PlainForm.ofCode(code)) ? 1 : 0;
+            Expect.same("isPrime of " + code + " by trying", Made.of(code).isPrime(0, 0), want);
+            Expect.same("isPrime of " + code + " by rising", Made.of(code).isPrime(0, 1), want);
+        }
         Expect.index("isPrime(6, 2)", Made::busy, f -> f.isPrime(6, 2));
         Expect.index("isPrime(-1, 0)", Made::busy, f -> f.isPrime(-1, 0));
         Expect.argument("isPrime(3, 2)", Made::busy, f -> f.isPrime(3, 2));

@@ -126,6 +126,7 @@ final class FormActTests {
         Expect.same("text", x.text(0), "4 1");
         Expect.act("shift(0, -5)", x, f -> f.shift(0, -5), -1);
         Expect.act("shift(0, 39)", x, f -> f.shift(0, 39), -1);
+        Expect.act("shift(0, -1)", Made.of(37), f -> f.shift(0, -1), 4);
         Expect.act("shift(0, -39)", full(), f -> f.shift(0, -39), 0);
         Expect.act("shift(0, 39)", Made.of(1), f -> f.shift(0, 39), 39);
         Expect.refused("shift(0, 1)", FormActTests::full, f -> f.shift(0, 1));
@@ -230,6 +231,7 @@ final class FormActTests {
         Expect.act("a lesser degree", x, f -> f.divide(1, 0, 3), -1);
         Expect.act("by itself", x, f -> f.divide(0, 0, 0), 0);
         Expect.act("none by one", x, f -> f.divide(4, 1, 1), -1);
+        Expect.act("a degree far below", Made.of(4, 1 << 30), f -> f.divide(0, 1, 2), -1);
         Formwheel y = full();
         y.set(1, 1);
         y.divide(0, 1, 2);
@@ -251,6 +253,7 @@ final class FormActTests {
         Expect.act("by itself", x, f -> f.remain(0, 0, 3), -1);
         Expect.act("into the divisor", x, f -> f.remain(0, 1, 1), 1);
         Expect.same("code", x.code(1), 0b11);
+        Expect.act("a degree far below", Made.of(4, 1 << 30), f -> f.remain(0, 1, 2), 2);
         Formwheel y = Made.of(37, 1);
         Expect.act("by the unit", y, f -> f.remain(0, 1, 0), -1);
         Expect.refused("remain(0, 2, 1)", Made::busy, f -> f.remain(0, 2, 1));

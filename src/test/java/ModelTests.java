@@ -21,6 +21,9 @@ final class ModelTests {
         "primes:nh", "prime:nn", "period:fh", "rollText:k", "rowText:", "again:", "house:n", "knock:",
         "isSound:", "digest:"};
 
+    private static final int[] EDGES = {
+        -1, 6, 7, 10, 11, 12, 40, 41, 255, 256, 4096, Integer.MIN_VALUE, Integer.MAX_VALUE};
+
     private final List<Method> ofClass = new ArrayList<>();
     private final List<Method> ofModel = new ArrayList<>();
     private final List<String> shapes = new ArrayList<>();
@@ -89,7 +92,7 @@ final class ModelTests {
 
     private int argumentOf(char kind) {
         if (next(60) == 0) {
-            return new int[] {-1, 6, 7, 10, 11, 12, 40, 41, 255, 256, 4096, Integer.MIN_VALUE, Integer.MAX_VALUE}[next(13)];
+            return EDGES[next(EDGES.length)];
         }
         switch (kind) {
             case 'f':

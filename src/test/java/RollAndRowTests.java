@@ -36,6 +36,9 @@ final class RollAndRowTests {
         Expect.same("roll", rollOf(x), "1,3 1 0,3 2 0");
         x.set(5, 0);
         Expect.same("the roll stays", rollOf(x), "1,3 1 0,3 2 0");
+        Expect.act("factor(2, 1)", x, f -> f.factor(2, 1), 1);
+        Expect.same("roll", rollOf(x), "10 9 8 7 6 5 4 3 2 1 0");
+        eachPrimeAlone();
         Expect.refused("of the unit", Made::busy, f -> f.factor(4, 0));
         Expect.refused("of none", Made::busy, f -> f.factor(2, 1));
         Expect.refused("of degree 11", () -> Made.of(2048), f -> f.factor(0, 1));
@@ -44,6 +47,18 @@ final class RollAndRowTests {
         Expect.index("factor(-1, 0)", Made::busy, f -> f.factor(-1, 0));
         Expect.argument("factor(0, 2)", Made::busy, f -> f.factor(0, 2));
         Expect.argument("factor(3, -1)", Made::busy, f -> f.factor(3, -1));
+    }
+
+    /** One object looks for the factors of many forms, one behind the other. */
+    private static void eachPrimeAlone() {
+        Formwheel x = new Formwheel();
+        for (int n = 1; n <= 6; n++) {
+            for (int k = 0; x.prime(n, k) != -1; k++) {
+                x.set(0, x.prime(n, k));
+                Expect.act("factor of a prime", x, f -> f.factor(0, 1), 1);
+                Expect.same("roll", rollOf(x), x.text(0));
+            }
+        }
     }
 
     static void p22Enroll() {
@@ -138,6 +153,7 @@ final class RollAndRowTests {
         Expect.same("text", z.text(1), "39");
         Expect.act("with an empty one", Made.roll(FULL, FULL, 0, FULL), f -> f.product(1), -1);
         Expect.act("with an empty one at the end", Made.roll(FULL, FULL, 0), f -> f.product(1), -1);
+        Expect.act("with an empty one first", Made.roll(0, FULL, FULL), f -> f.product(1), -1);
         Expect.act("an empty one alone", Made.roll(0), f -> f.product(1), -1);
         Expect.refused("degrees 40 together", () -> Made.roll(1 << 20, 1 << 20), f -> f.product(1));
         Expect.refused("degrees 360 together", () -> Made.rolled(12, FULL), f -> f.product(1));
