@@ -1,7 +1,8 @@
 import java.util.LinkedHashMap;
+import java.util.List;
 import java.util.Map;
 
-/** Runs every test of the project; each promise has one of its own. */
+/** Runs every test of the project: one of each promise, one of each sentence that names an edge, and others. */
 public final class AllTests {
     private AllTests() {
     }
@@ -10,6 +11,8 @@ public final class AllTests {
         Map<String, Runnable> tests = new LinkedHashMap<>();
         tests.put("the face", FaceTests::face);
         tests.put("no other library", FaceTests::library);
+        tests.put("each quote stands in the document", QuoteTests::quotesStandThere);
+        tests.put("each answer and exception is quoted", QuoteTests::rowsAreQuoted);
         tests.put("promise 1, a new object", FormActTests::p01New);
         tests.put("promise 2, set", FormActTests::p02Set);
         tests.put("promise 3, digit", FormActTests::p03Digit);
@@ -61,11 +64,6 @@ public final class AllTests {
         tests.put("promise 49, knock", WholeTests::p49Knock);
         tests.put("promise 50, isSound", WholeTests::p50IsSound);
         tests.put("promise 51, digest", WholeTests::p51Digest);
-        tests.put("laws of sums and products", LawTests::sumsAndProducts);
-        tests.put("laws of division", LawTests::division);
-        tests.put("laws of factors", LawTests::factors);
-        tests.put("laws of wheels", LawTests::wheels);
-        tests.put("laws of seals and bursts", LawTests::sealsAndBursts);
         tests.put("long runs beside a plain model", ModelTests::longRuns);
         return tests;
     }
@@ -82,10 +80,30 @@ public final class AllTests {
                 System.out.println("FAILED: " + test.getKey());
             }
         }
+        for (Map.Entry<String, List<Sentences.Sentence>> told : Sentences.ofDocument().all().entrySet()) {
+            int broken = brokenOf(told.getKey(), told.getValue());
+            failed += broken;
+            passed += told.getValue().size() - broken;
+        }
         System.out.println("project: " + passed + " passed, " + failed + " failed");
         if (failed != 0) {
             System.exit(1);
         }
+    }
+
+    /** How many of the sentences under a heading do not hold. */
+    private static int brokenOf(String heading, List<Sentences.Sentence> sentences) {
+        int broken = 0;
+        for (Sentences.Sentence one : sentences) {
+            if (!holds(one.test())) {
+                broken++;
+                System.out.println("FAILED: " + heading + ", \"" + one.quote() + "\", " + one.which());
+            }
+        }
+        if (broken == 0) {
+            System.out.println("ok: " + heading + ", each of " + sentences.size() + " sentences");
+        }
+        return broken;
     }
 
     private static boolean holds(Runnable test) {

@@ -1,4 +1,4 @@
-/** What always holds, seen through the face alone. */
+/** What always holds, seen through the face alone, of many forms. */
 final class LawTests {
     private static final int FEW = 40;
 
@@ -15,9 +15,17 @@ final class LawTests {
         return x.order(one, other) == 0;
     }
 
+    /** Three forms of at most 13 digits. */
+    private static Formwheel three(int number) {
+        return Made.of(codeOf(number, 13), codeOf(number + 500, 13), codeOf(number + 900, 13));
+    }
+
     static void sumsAndProducts() {
         for (int number = 0; number < FEW; number++) {
-            Formwheel x = Made.of(codeOf(number, 13), codeOf(number + 500, 13), codeOf(number + 900, 13));
+            Formwheel x = three(number);
+            x.add(0, 1, 3);
+            x.add(1, 0, 4);
+            Expect.so("the sum of a and b is that of b and a", areSame(x, 3, 4));
             x.multiply(0, 1, 3);
             x.multiply(1, 0, 4);
             Expect.so("a by b is b by a", areSame(x, 3, 4));
@@ -25,18 +33,35 @@ final class LawTests {
             x.multiply(1, 2, 4);
             x.multiply(0, 4, 4);
             Expect.so("three in any sequence", areSame(x, 3, 4));
-            x.add(0, 1, 3);
-            x.square(3, 3);
-            x.square(0, 4);
-            x.square(1, 5);
-            x.add(4, 5, 5);
-            Expect.so("the square of a sum", areSame(x, 3, 5));
             x.add(1, 2, 3);
             x.multiply(0, 3, 3);
             x.multiply(0, 1, 4);
             x.multiply(0, 2, 5);
             x.add(4, 5, 5);
             Expect.so("a product goes through a sum", areSame(x, 3, 5));
+        }
+    }
+
+    static void squares() {
+        for (int number = 0; number < FEW; number++) {
+            Formwheel x = three(number);
+            x.add(0, 1, 3);
+            x.square(3, 3);
+            x.square(0, 4);
+            for (int place = 0; place < 40; place++) {
+                Expect.same("place " + place, x.has(4, place), place % 2 == 0 && x.has(0, place / 2));
+            }
+            x.square(1, 5);
+            x.add(4, 5, 5);
+            Expect.so("the square of a sum", areSame(x, 3, 5));
+            x.multiply(0, 0, 3);
+            Expect.so("the product by itself", areSame(x, 3, 4));
+        }
+    }
+
+    static void turnedProducts() {
+        for (int number = 0; number < FEW; number++) {
+            Formwheel x = three(number);
             x.multiply(0, 1, 3);
             x.turn(3);
             x.turn(0);
@@ -46,7 +71,7 @@ final class LawTests {
         }
     }
 
-    static void division() {
+    static void quotientAndRest() {
         for (int number = 0; number < FEW; number++) {
             Formwheel x = Made.of(codeOf(number, 31), codeOf(number + 300, 3 + number % 28) | 1);
             x.divide(0, 1, 2);
@@ -56,6 +81,29 @@ final class LawTests {
             x.add(4, 3, 4);
             Expect.so("quotient by divisor and rest", areSame(x, 0, 4));
         }
+    }
+
+    static void noOtherTwo() {
+        for (int one = 0; one < 32; one += 3) {
+            for (int by = 1; by < 16; by++) {
+                Formwheel made = Made.of(one, by);
+                made.divide(0, 1, 2);
+                made.remain(0, 1, 3);
+                StringBuilder found = new StringBuilder();
+                for (int quotient = 0; quotient < 32; quotient++) {
+                    for (int rest = 0; rest < Integer.highestOneBit(by); rest++) {
+                        if ((PlainForm.code(PlainForm.product(PlainForm.ofCode(quotient), PlainForm.ofCode(by))) ^ rest)
+                                == one) {
+                            found.append(quotient).append(' ').append(rest).append(';');
+                        }
+                    }
+                }
+                Expect.same(one + " by " + by, made.code(2) + " " + made.code(3) + ";", found.toString());
+            }
+        }
+    }
+
+    static void commonByMultipliers() {
         for (int number = 0; number < FEW; number++) {
             Formwheel x = Made.of(codeOf(number, 20), codeOf(number + 300, 3 + number % 17));
             x.common(0, 1, 2);
@@ -66,10 +114,9 @@ final class LawTests {
             x.add(3, 4, 4);
             Expect.so("common by its multipliers", areSame(x, 2, 4));
         }
-        commonIsGreatest();
     }
 
-    private static void commonIsGreatest() {
+    static void commonIsGreatest() {
         for (int one = 1; one < 64; one += 3) {
             for (int other = 1; other < 64; other += 5) {
                 Formwheel x = Made.of(one, other);
@@ -88,58 +135,58 @@ final class LawTests {
         for (int code = 2; code < 2048; code++) {
             Formwheel x = Made.of(code);
             int many = x.factor(0, 0);
-            StringBuilder least = new StringBuilder();
-            boolean areUnlike = true;
             for (int k = 0; k < many; k++) {
-                least.append(x.rollText(k)).append(',');
                 x.take(k, 2);
                 Expect.same("a factor is prime", x.isPrime(2, 0), 1);
-                areUnlike = areUnlike && (k == 0 || !x.rollText(k).equals(x.rollText(k - 1)));
             }
+            String least = Look.rollOf(x);
             x.product(1);
             Expect.same("product of the factors", x.code(1), code);
             Expect.same("how many by degrees", x.factor(0, 1), many);
+            x.product(1);
+            Expect.same("product of the factors by degrees", x.code(1), code);
             x.sort(false);
-            StringBuilder otherwise = new StringBuilder();
-            for (int k = 0; k < many; k++) {
-                otherwise.append(x.rollText(k)).append(',');
-            }
-            Expect.same("factors of " + code, otherwise.toString(), least.toString());
-            Expect.same("prime by rising", x.isPrime(0, 1), x.isPrime(0, 0));
-            Expect.same("prime just if it is alone", x.isPrime(0, 0), many == 1 ? 1 : 0);
+            Expect.same("factors of " + code, Look.rollOf(x), least);
             x.copy(0, 1);
             x.slope(1);
-            Expect.same("none twice, " + code, x.common(0, 1, 1) == 0, areUnlike);
-            if (code % 2 == 1) {
-                factorsTurned(x);
+            boolean areUnlike = x.common(0, 1, 1) == 0;
+            boolean want = true;
+            for (int k = 1; k < many; k++) {
+                want = want && !x.rollText(k).equals(x.rollText(k - 1));
             }
+            Expect.same("none twice, " + code, areUnlike, want);
         }
     }
 
-    /** The roll of form 0, turned, has the factors of the turned form. */
-    private static void factorsTurned(Formwheel x) {
-        x.factor(0, 0);
-        x.turnAll();
-        x.sort(false);
-        Formwheel y = Made.of(x.code(0));
-        y.turn(0);
-        Expect.same("factors of the turned one", y.factor(0, 1), x.house(3));
-        y.sort(false);
-        for (int k = 0; k < x.house(3); k++) {
-            Expect.same("a factor of the turned one", y.rollText(k), x.rollText(k));
+    /** The roll of a form, turned, has the factors of the turned form. */
+    static void turnedFactors() {
+        for (int code = 3; code < 2048; code += 2) {
+            Formwheel x = Made.of(code);
+            x.factor(0, 0);
+            x.turnAll();
+            x.sort(false);
+            Formwheel y = Made.of(code);
+            y.turn(0);
+            y.factor(0, 1);
+            y.sort(false);
+            Expect.same("factors of " + code + " turned", Look.rollOf(y), Look.rollOf(x));
         }
     }
 
-    static void wheels() {
+    static void primes() {
+        for (int code = 0; code < 2048; code++) {
+            Formwheel x = Made.of(code);
+            Expect.same("prime by rising", x.isPrime(0, 1), x.isPrime(0, 0));
+            Expect.same("prime just if it is alone", x.isPrime(0, 0), x.factor(0, 0) == 1 ? 1 : 0);
+        }
+    }
+
+    static void periods() {
         for (int code = 3; code < 512; code += 2) {
-            Formwheel x = Made.of(code, code);
+            Formwheel x = Made.of(code);
             int period = x.period(0, 0);
             Expect.same("period by steps of " + code, x.period(0, 1), period);
             Expect.same("period by factors of " + code, x.period(0, 2), period);
-            x.turn(1);
-            Expect.same("period of the turned one", x.period(1, 0), period);
-            int rising = (1 << x.degree(0)) - 1;
-            Expect.so("period of a prime", x.isPrime(0, 0) == 0 || rising % period == 0);
             int cells = x.start(0);
             Expect.same("begun anew", x.again(), period);
             x.load(codeOf(code, cells));
@@ -147,6 +194,17 @@ final class LawTests {
             String before = x.rowText();
             x.step(x.again());
             Expect.same("the cells then", x.rowText(), before);
+        }
+    }
+
+    static void periodsOfPrimesAndTurned() {
+        for (int code = 3; code < 512; code += 2) {
+            Formwheel x = Made.of(code, code);
+            int period = x.period(0, 0);
+            x.turn(1);
+            Expect.same("period of the turned one", x.period(1, 0), period);
+            int rising = (1 << x.degree(0)) - 1;
+            Expect.so("period of a prime", x.isPrime(0, 0) == 0 || rising % period == 0);
         }
     }
 

@@ -1,3 +1,6 @@
+import java.util.List;
+import java.util.function.Supplier;
+
 /** Objects to begin tests with. */
 final class Made {
     private Made() {
@@ -54,5 +57,62 @@ final class Made {
         Formwheel x = of(taps);
         x.start(0);
         return x;
+    }
+
+    /** One whose forms 0, 1 .. have a 1 at these places, told as text() tells them. */
+    static Formwheel forms(String... texts) {
+        Formwheel x = new Formwheel();
+        for (int form = 0; form < texts.length; form++) {
+            put(x, form, texts[form]);
+        }
+        return x;
+    }
+
+    /** One with these in the roll, told as text() tells them; form 0 has the last one. */
+    static Formwheel rollOf(String... texts) {
+        Formwheel x = new Formwheel();
+        for (String text : texts) {
+            x.set(0, 0);
+            put(x, 0, text);
+            x.enroll(0);
+        }
+        return x;
+    }
+
+    private static void put(Formwheel x, int form, String text) {
+        if (!text.isEmpty()) {
+            for (String place : text.split(" ")) {
+                x.digit(form, Integer.parseInt(place), 1);
+            }
+        }
+    }
+
+    /** One in which all is full: forms of forty ones, twelve of them in the roll, eight cells with a 1 each. */
+    static Formwheel full() {
+        Formwheel x = of(511);
+        x.start(0);
+        x.load(255);
+        x.set(0, 0);
+        for (int form = 0; form < 6; form++) {
+            x.run(form, 0, 40);
+        }
+        for (int k = 0; k < 12; k++) {
+            x.enroll(0);
+        }
+        return x;
+    }
+
+    /** A new one, a busy one, and a full one. */
+    static List<Supplier<Formwheel>> unlike() {
+        return List.of(Formwheel::new, Made::busy, Made::full);
+    }
+
+    /** The places of a run of ones, the greatest first, as text() tells them. */
+    static String run(int from, int to) {
+        StringBuilder places = new StringBuilder();
+        for (int place = to - 1; place >= from; place--) {
+            places.append(place == to - 1 ? "" : " ").append(place);
+        }
+        return places.toString();
     }
 }
