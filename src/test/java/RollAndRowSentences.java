@@ -49,6 +49,19 @@ final class RollAndRowSentences {
                     roll("1", "1", "1", "1", "1", "1", "1", "1", "1", "1"));
             }
         });
+        s.that("all that it had goes", "many forms, one behind the other, of one object", () -> {
+            for (int how = 0; how < 2; how++) {
+                Formwheel x = new Formwheel();
+                for (int times = 0; times < 100; times++) {
+                    int code = 2 + times * 97 % 2046;
+                    x.set(0, code);
+                    x.factor(0, how);
+                    Formwheel alone = Made.of(code);
+                    alone.factor(0, how);
+                    Expect.same("of " + code, rollBriefly(x), rollBriefly(alone));
+                }
+            }
+        });
         s.that("The ROLL becomes the FACTORS of a FORM", "they stay, whatever becomes of the form", () -> {
             Formwheel x = Made.of(37);
             x.factor(0, 0);
@@ -104,6 +117,12 @@ final class RollAndRowSentences {
         });
         s.that("Throws IndexOutOfBoundsException", "ahead of how", () ->
             Expect.notIndexes("factor", (x, form) -> x.factor(form, 2), -1, 6));
+    }
+
+    /** Few calls: the product and how many they are tell the roll of one form's factors. */
+    private static String rollBriefly(Formwheel x) {
+        x.product(1);
+        return x.house(3) + ": " + x.text(1);
     }
 
     private static void p22Enroll(Sentences s) {
