@@ -10,7 +10,13 @@ public final class AllTests {
     private static Map<String, Runnable> tests() {
         Map<String, Runnable> tests = new LinkedHashMap<>();
         tests.put("the face", FaceTests::face);
+        tests.put("the heads are the document's", FaceTests::heads);
+        tests.put("each promise is of a head", FaceTests::promises);
         tests.put("no other library", FaceTests::library);
+        tests.put("sizes of the class", FaceTests::sizes);
+        tests.put("README.md shows each method", ReadmeTests::methodsAreShown);
+        tests.put("README.md names each file", ReadmeTests::filesAreNamed);
+        tests.put("README.md tells how to compile and to test", ReadmeTests::howToRun);
         tests.put("each quote stands in the document", QuoteTests::quotesStandThere);
         tests.put("each answer and exception is quoted", QuoteTests::rowsAreQuoted);
         tests.put("promise 1, a new object", FormActTests::p01New);

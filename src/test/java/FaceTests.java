@@ -1,10 +1,7 @@
-import java.io.IOException;
 import java.lang.reflect.Constructor;
 import java.lang.reflect.Field;
 import java.lang.reflect.Method;
 import java.lang.reflect.Modifier;
-import java.nio.file.Files;
-import java.nio.file.Path;
 import java.util.Arrays;
 import java.util.List;
 import java.util.Set;
@@ -15,15 +12,16 @@ import java.util.stream.Collectors;
 
 /** The class has the document's face and no other, and keeps to rules of LANGUAGE.md that can be looked for. */
 final class FaceTests {
-    private static final Path SOURCE = Path.of("src/main/java/Formwheel.java");
-    private static final Path DOCUMENT = Path.of("../shared/DOC.md");
-
     private FaceTests() {
     }
+
+    // ==== the face, as the machine sees it
 
     static void face() {
         Expect.same("methods", faceOfClass(), faceOfDocument());
         Expect.so("final and public", Modifier.toString(Formwheel.class.getModifiers()).equals("public final"));
+        Expect.same("what it extends", Formwheel.class.getSuperclass(), Object.class);
+        Expect.same("what it implements", Formwheel.class.getInterfaces().length, 0);
         for (Constructor<?> one : Formwheel.class.getDeclaredConstructors()) {
             Expect.same("constructor", one.toString(), "public Formwheel()");
         }
@@ -37,6 +35,7 @@ final class FaceTests {
         for (Class<?> inside : Formwheel.class.getDeclaredClasses()) {
             Expect.so(inside + " is static", Modifier.isStatic(inside.getModifiers()));
             Expect.so(inside + " is not public", !Modifier.isPublic(inside.getModifiers()));
+            Expect.so(inside + " is not protected", !Modifier.isProtected(inside.getModifiers()));
             noneOf(names, inside);
         }
         noneOf(names, Formwheel.class);
@@ -51,6 +50,7 @@ final class FaceTests {
         for (Method one : of.getDeclaredMethods()) {
             int kind = one.getModifiers();
             Expect.so(one + " is public or private", Modifier.isPublic(kind) || Modifier.isPrivate(kind));
+            Expect.so(one + " if public, is an object's", !Modifier.isPublic(kind) || !Modifier.isStatic(kind));
         }
     }
 
@@ -66,22 +66,23 @@ final class FaceTests {
         Set<String> rows = new TreeSet<>();
         for (Method one : Formwheel.class.getDeclaredMethods()) {
             if (Modifier.isPublic(one.getModifiers())) {
-                String thrown = Arrays.stream(one.getExceptionTypes()).map(Class::getSimpleName)
-                    .collect(Collectors.joining(", "));
-                String given = Arrays.stream(one.getParameterTypes()).map(Class::getSimpleName)
-                    .collect(Collectors.joining(", "));
-                rows.add(one.getReturnType().getSimpleName() + " " + one.getName() + "(" + given + ")"
-                    + (thrown.isEmpty() ? "" : " throws " + thrown));
+                rows.add(one.getReturnType().getSimpleName() + " " + one.getName() + "("
+                    + namesOf(one.getParameterTypes(), "") + ")" + namesOf(one.getExceptionTypes(), " throws "));
             }
         }
         return String.join("\n", rows);
     }
 
+    private static String namesOf(Class<?>[] types, String ahead) {
+        return types.length == 0 ? ""
+            : Arrays.stream(types).map(Class::getSimpleName).collect(Collectors.joining(", ", ahead, ""));
+    }
+
     private static String faceOfDocument() {
         Set<String> rows = new TreeSet<>();
-        Pattern method = Pattern.compile("    public (\\w+) (\\w+)\\((.*)\\)(| throws .*);");
-        for (String line : linesOf(DOCUMENT)) {
-            Matcher m = method.matcher(line);
+        Pattern method = Pattern.compile("public (\\w+) (\\w+)\\((.*)\\)(| throws .*)");
+        for (String head : headsOfDocument()) {
+            Matcher m = method.matcher(head);
             if (m.matches()) {
                 String given = Arrays.stream(m.group(3).split(", ")).map(p -> p.split(" ")[0])
                     .collect(Collectors.joining(", "));
@@ -91,26 +92,129 @@ final class FaceTests {
         return String.join("\n", rows);
     }
 
+    // ==== the heads, word by word
+
+    /** Names of parameters, too; and a constant, if the document had one. */
+    static void heads() {
+        Set<String> due = headsOfDocument();
+        Expect.same("heads", String.join("\n", headsOfSource()), String.join("\n", due));
+        Expect.same("how many", due.size(), 1 + 51);
+    }
+
+    private static Set<String> headsOfDocument() {
+        Set<String> heads = new TreeSet<>();
+        for (String line : Pages.blocksOf(Pages.DOCUMENT, "java").get(0)) {
+            if (!line.isBlank() && !line.equals("}")) {
+                heads.add(line.trim().replaceAll(";$| \\{$", ""));
+            }
+        }
+        return heads;
+    }
+
+    private static Set<String> headsOfSource() {
+        Set<String> heads = new TreeSet<>();
+        Matcher head = Pattern.compile("\\b(public|protected)\\b[^{;]*").matcher(codeOfSource());
+        while (head.find()) {
+            heads.add(head.group().trim().replaceAll("\\s+", " "));
+        }
+        return heads;
+    }
+
+    /** The line below the heading of each promise is one of the heads, and each head has its promise. */
+    static void promises() {
+        Set<String> told = new TreeSet<>();
+        told.add("public final class Formwheel");
+        String heading = "";
+        int number = 0;
+        for (String line : Pages.linesOf(Pages.DOCUMENT)) {
+            if (line.startsWith("## ")) {
+                heading = line;
+                number += line.startsWith("## Promise ") ? 1 : 0;
+            } else if (heading.startsWith("## Promise " + number + ": ") && line.matches("`.*\\)`|`.*\\) throws .*`")) {
+                told.add("public " + line.replace("`", ""));
+                heading = "";
+            }
+        }
+        Expect.same("promises", number, 51);
+        Expect.same("their heads", String.join("\n", told), String.join("\n", headsOfDocument()));
+    }
+
+    // ==== what LANGUAGE.md says, as far as it can be seen from the words
+
+    /** The words of the file without its comments. */
+    private static String codeOfSource() {
+        StringBuilder code = new StringBuilder();
+        for (String line : Pages.linesOf(Pages.SOURCE)) {
+            String words = line.trim();
+            boolean isComment = words.startsWith("//") || words.startsWith("/*") || words.startsWith("*");
+            code.append(isComment ? "" : line).append('\n');
+        }
+        return code.toString();
+    }
+
     /** Words that rules 2, 4, 6 and 10 rule out, wherever they stand in the file. */
     static void library() {
         List<String> barred = List.of("import ", "->", "::", "finally", "synchronized", "assert ", "Exact(",
             "catch", "System.out", "String.format", "MAX_VALUE", "MIN_VALUE", "Arrays.sort", "\" +", "+ \"",
             "random", "currentTime", "nanoTime", "Thread", "native ", "volatile ", "strictfp");
         int number = 0;
-        for (String line : linesOf(SOURCE)) {
+        for (String line : Pages.linesOf(Pages.SOURCE)) {
             number++;
             for (String word : barred) {
                 Expect.so("line " + number + " without " + word, !line.contains(word));
             }
+            Expect.so("line " + number + " of signs 32 to 126", line.matches("[ -~]*"));
         }
         Expect.so("the file was read", number > 100);
+        each("[A-Z]\\w*\\.\\w+(?=\\()", "(Integer|Long|Math)\\.(compare|max|min|abs|bitCount|floorDiv|floorMod)"
+            + "|System\\.arraycopy|Arrays\\.(copyOf|copyOfRange|fill)|(" + classesInside() + ")\\.\\w+");
+        each("new [\\w\\[]+", "new (long|int)\\[\\w+|new (StringBuilder|" + classesInside() + ")"
+            + "|new (IndexOutOfBounds|IllegalArgument)Exception");
+        each("throw .*", "throw new \\w+\\(\"[^\"]*\"\\);");
     }
 
-    private static List<String> linesOf(Path file) {
-        try {
-            return Files.readAllLines(file);
-        } catch (IOException e) {
-            throw new IllegalStateException("cannot read " + file, e);
+    private static String classesInside() {
+        return Arrays.stream(Formwheel.class.getDeclaredClasses()).map(Class::getSimpleName)
+            .collect(Collectors.joining("|"));
+    }
+
+    /** Each place of the file that is so, is one of those that may be. */
+    private static void each(String so, String allowed) {
+        Matcher found = Pattern.compile("\\b" + so).matcher(codeOfSource());
+        int many = 0;
+        while (found.find()) {
+            many++;
+            Expect.so(found.group() + " may stand there", found.group().matches(allowed));
+        }
+        Expect.so("there are some of " + so, many > 0);
+    }
+
+    /** Rule 11. */
+    static void sizes() {
+        Class<?>[] inside = Formwheel.class.getDeclaredClasses();
+        Expect.so("classes", inside.length + 1 <= 12);
+        smallEnough(Formwheel.class);
+        for (Class<?> one : inside) {
+            smallEnough(one);
+        }
+        List<String> lines = List.of(codeOfSource().split("\n"));
+        for (int from = 0; from < lines.size(); from++) {
+            Matcher head = Pattern.compile("( {4}| {8})[^ }].*\\(.*").matcher(lines.get(from));
+            if (head.matches() && !head.group().endsWith(";")) {
+                List<String> behind = lines.subList(from, lines.size());
+                Expect.so("at most 60 lines: " + head.group(), behind.indexOf(head.group(1) + "}") < 60);
+            }
+        }
+    }
+
+    private static void smallEnough(Class<?> of) {
+        int fields = 0;
+        for (Field one : of.getDeclaredFields()) {
+            fields += Modifier.isStatic(one.getModifiers()) ? 0 : 1;
+        }
+        Expect.so("fields of " + of, fields <= 20);
+        for (Method one : of.getDeclaredMethods()) {
+            Expect.so("parameters of " + one, one.getParameterCount() <= 7);
         }
     }
 }

@@ -1,6 +1,3 @@
-import java.io.IOException;
-import java.nio.file.Files;
-import java.nio.file.Path;
 import java.util.ArrayList;
 import java.util.LinkedHashMap;
 import java.util.List;
@@ -10,7 +7,6 @@ import java.util.regex.Pattern;
 
 /** Each quote of the sentences' tests stands in the document, and each row that tells an answer is quoted. */
 final class QuoteTests {
-    private static final Path DOCUMENT = Path.of("../shared/DOC.md");
     private static final Pattern HEADING = Pattern.compile("## (Description|Promise \\d+).*");
 
     private QuoteTests() {
@@ -65,7 +61,7 @@ final class QuoteTests {
     private static Map<String, String> textsByHeading() {
         Map<String, String> texts = new LinkedHashMap<>();
         String heading = "";
-        for (String line : linesOfDocument()) {
+        for (String line : Pages.linesOf(Pages.DOCUMENT)) {
             Matcher m = HEADING.matcher(line);
             if (line.startsWith("## ")) {
                 heading = m.matches() ? m.group(1) : "";
@@ -74,13 +70,5 @@ final class QuoteTests {
         }
         texts.remove("");
         return texts;
-    }
-
-    private static List<String> linesOfDocument() {
-        try {
-            return Files.readAllLines(DOCUMENT);
-        } catch (IOException e) {
-            throw new IllegalStateException("cannot read " + DOCUMENT, e);
-        }
     }
 }
