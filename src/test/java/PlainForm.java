@@ -56,8 +56,11 @@ final class PlainForm {
         return shifted;
     }
 
-    /** Quotient and rest. */
+    /** Quotient and rest. By the empty form it would not end: then the class has told a test a wrong form. */
     static BitSet[] divided(BitSet form, BitSet by) {
+        if (by.isEmpty()) {
+            throw new IllegalArgumentException("no form is divided by the empty one");
+        }
         BitSet quotient = new BitSet();
         BitSet left = (BitSet) form.clone();
         while (degree(left) >= degree(by)) {
